@@ -856,7 +856,6 @@ public final class DebtClearing {
 
         private void divide(Ledger ledger, int member) {
             Arrays.fill(shares, 0);
-            Arrays.fill(remainders, 0);
             int debit = ledger.debitOf(member);
             if (debit <= 0) {
                 return;

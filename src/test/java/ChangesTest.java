@@ -152,6 +152,8 @@ public final class ChangesTest {
         Check.same("from the second member", house.netTriangle(3, 2, 0), 5);
         house.addDebt(2, 0, 2);
         Check.same("from the third member", house.netTriangle(2, 0, 3), 2);
+        DebtClearing ones = Houses.with(3, Houses.debt(0, 1, 1), Houses.debt(1, 2, 1), Houses.debt(2, 0, 1));
+        Check.same("debts of 1", ones.netTriangle(0, 1, 2), 1);
         DebtClearing firstLeast = Houses.with(3, Houses.debt(0, 1, 1), Houses.debt(1, 2, 5), Houses.debt(2, 0, 6));
         Check.same("first debt is the smallest", firstLeast.netTriangle(0, 1, 2), 1);
     }
@@ -211,6 +213,13 @@ public final class ChangesTest {
         Check.same("crossed ties", crossed.clearAll(), 2);
         Check.same("first to the lower creditor", crossed.owed(0, 2), 5);
         Check.same("second to the other", crossed.owed(1, 3), 5);
+        Check.same("the rest is 1", Houses.with(2, Houses.debt(0, 1, 1)).clearAll(), 1);
+        DebtClearing later = Houses.with(4, Houses.debt(0, 3, 9));
+        later.clearAll();
+        later.pay(0, 3, 4);
+        later.addDebt(0, 2, 5);
+        Check.same("ties after an earlier clearing", later.clearAll(), 2);
+        Check.same("still the lower creditor first", later.largestCreditor(), 2);
         Check.same("crossed debts are gone", crossed.owed(0, 3) + crossed.owed(1, 2), 0);
     }
 

@@ -188,6 +188,10 @@ public final class CommandsTest {
         house.addDebt(0, 1, 18);
         Check.same("length", house.writeDebts(0), 14);
         Check.same("the example", Houses.output(house, 14), "12c >1:30 >4:7");
+        house.addDebt(7, 6, 1);
+        house.addDebt(7, 0, 9);
+        Check.same("length", house.writeDebts(7), 13);
+        Check.same("first and last creditor", Houses.output(house, 13), "30c >0:9 >6:1");
     }
 
     private static void promise47OutputChar() {

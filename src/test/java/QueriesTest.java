@@ -1,3 +1,4 @@
+import java.lang.reflect.Field;
 import java.util.NoSuchElementException;
 
 /** Promises 12 to 41: the calls that only answer. */
@@ -7,7 +8,7 @@ public final class QueriesTest {
     private static final Class<IllegalStateException> BAD_STATE = IllegalStateException.class;
     private static final Class<NoSuchElementException> NOT_FOUND = NoSuchElementException.class;
 
-    public static void main(String[] args) {
+    public static void main(String[] args) throws ReflectiveOperationException {
         promises12To18Members();
         promise19Owed();
         promises20And25Debts();
@@ -24,6 +25,7 @@ public final class QueriesTest {
         promise39MeanPosition();
         promise40DebtShare();
         promise41IsConsistent();
+        promise41SeesWrongAccount();
         noSuchMember();
         queriesAreNotRecorded();
         Check.finish();
@@ -98,6 +100,8 @@ public final class QueriesTest {
         Check.same("largest", house.largestDebtor(), 4);
         Check.same("its creditor", house.largestCreditor(), 1);
         DebtClearing paid = Houses.with(2, Houses.debt(0, 1, 1));
+        Check.same("debt of 1", paid.largestDebtor(), 0);
+        Check.same("debt of 1", paid.largestCreditor(), 1);
         paid.pay(0, 1, 1);
         Check.throwing("paid debts are not positive", NOT_FOUND, paid::largestDebtor);
         Check.throwing("paid debts are not positive", NOT_FOUND, paid::largestCreditor);
@@ -107,6 +111,7 @@ public final class QueriesTest {
         DebtClearing house = Houses.with(4, Houses.debt(0, 1, 1), Houses.debt(1, 2, 1));
         triangles(house, 0);
         house.addDebt(2, 0, 1);
+        Check.same("product at once after a change", house.trianglesByProduct(), 1);
         triangles(house, 1);
         house.addDebt(1, 0, 1);
         house.addDebt(2, 1, 1);
@@ -142,6 +147,15 @@ public final class QueriesTest {
             reach(house, member, 7);
         }
         Check.same("round the ring", house.reaches(0, 1), true);
+        house.pay(4, 3, 4);
+        Check.same("a gap in the ring", house.reaches(4, 3), false);
+        Check.same("just before the gap", house.reaches(3, 4), true);
+        house.pay(2, 1, 2);
+        Check.same("rounds at once after a change", house.reachCountByRounds(3), 1);
+        house.undo();
+        Check.same("triangles", house.trianglesByProduct(), 0);
+        house.undo();
+        Check.same("reaches at once after a change", house.reaches(4, 3), true);
         Check.throwing("itself", BAD_ARGUMENT, () -> house.reaches(3, 3));
         Check.throwing("no member before itself", NO_INDEX, () -> house.reaches(8, 8));
         Check.throwing("from", NO_INDEX, () -> house.reaches(-1, 3));
@@ -286,6 +300,23 @@ public final class QueriesTest {
         house.declareDefault(0);
         house.clearAll();
         Check.same("after all", house.isConsistent(), true);
+    }
+
+    /** No call of the face can make a state inconsistent, so the test reaches behind it. */
+    private static void promise41SeesWrongAccount() throws ReflectiveOperationException {
+        DebtClearing house = Houses.with(3, Houses.debt(0, 1, 50));
+        Field ledgerField = DebtClearing.class.getDeclaredField("ledger");
+        ledgerField.setAccessible(true);
+        Object ledger = ledgerField.get(house);
+        Field accountsField = ledger.getClass().getDeclaredField("accounts");
+        accountsField.setAccessible(true);
+        int[] accounts = (int[]) accountsField.get(ledger);
+        accounts[0]++;
+        accounts[1]--;
+        Check.same("wrong accounts", house.isConsistent(), false);
+        accounts[0]--;
+        accounts[1]++;
+        Check.same("right accounts", house.isConsistent(), true);
     }
 
     private static void noSuchMember() {
