@@ -485,7 +485,9 @@ public final class DebtClearing {
             System.arraycopy(other.collateral, 0, collateral, 0, MOST_MEMBERS);
             System.arraycopy(other.limits, 0, limits, 0, MOST_MEMBERS);
             System.arraycopy(other.accounts, 0, accounts, 0, MOST_MEMBERS);
-            System.arraycopy(other.defaulted, 0, defaulted, 0, MOST_MEMBERS);
+            for (int member = 0; member < MOST_MEMBERS; member++) {
+                defaulted[member] = other.defaulted[member];
+            }
             memberCount = other.memberCount;
             haircut = other.haircut;
             netted = other.netted;

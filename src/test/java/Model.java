@@ -328,8 +328,8 @@ final class Model {
     }
 
     Object largest(int side) {
-        int most = state.debts.values().stream().mapToInt(amount -> amount).max()
-                .orElseThrow(NoSuchElementException::new);
+        demand(!state.debts.isEmpty(), NoSuchElementException::new);
+        int most = state.debts.values().stream().mapToInt(amount -> amount).max().getAsInt();
         return state.debts.entrySet().stream().filter(debt -> debt.getValue() == most).findFirst().get()
                 .getKey().get(side);
     }
