@@ -1013,8 +1013,10 @@ public final class DebtClearing {
                         joined |= sets[other];
                     }
                 }
-                hasChanged |= joined != sets[member];
-                sets[member] = joined;
+                if (joined != sets[member]) {
+                    sets[member] = joined;
+                    hasChanged = true;
+                }
             }
             return hasChanged;
         }

@@ -2,6 +2,7 @@ import com.sun.source.tree.AssertTree;
 import com.sun.source.tree.BinaryTree;
 import com.sun.source.tree.ClassTree;
 import com.sun.source.tree.CompilationUnitTree;
+import com.sun.source.tree.CompoundAssignmentTree;
 import com.sun.source.tree.DoWhileLoopTree;
 import com.sun.source.tree.ForLoopTree;
 import com.sun.source.tree.LambdaExpressionTree;
@@ -238,6 +239,12 @@ public final class LanguageTest {
                     .equals("java.lang.String");
             rule(10, tree + " joins no texts", !isText);
             return super.visitBinary(tree, nothing);
+        }
+
+        @Override
+        public Void visitCompoundAssignment(CompoundAssignmentTree tree, Void nothing) {
+            rule(10, tree + " is on numbers", trees.getTypeMirror(getCurrentPath()).toString().equals("int"));
+            return super.visitCompoundAssignment(tree, nothing);
         }
 
         @Override

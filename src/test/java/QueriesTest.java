@@ -26,6 +26,7 @@ public final class QueriesTest {
         promise40DebtShare();
         promise41IsConsistent();
         promise41SeesWrongAccount();
+        promise41SeesPositionsThatDoNotAddUp();
         noSuchMember();
         queriesAreNotRecorded();
         Check.finish();
@@ -302,21 +303,36 @@ public final class QueriesTest {
         Check.same("after all", house.isConsistent(), true);
     }
 
-    /** No call of the face can make a state inconsistent, so the test reaches behind it. */
+    /** No call of the face can make a state inconsistent, so the tests reach behind it. */
     private static void promise41SeesWrongAccount() throws ReflectiveOperationException {
         DebtClearing house = Houses.with(3, Houses.debt(0, 1, 50));
-        Field ledgerField = DebtClearing.class.getDeclaredField("ledger");
-        ledgerField.setAccessible(true);
-        Object ledger = ledgerField.get(house);
-        Field accountsField = ledger.getClass().getDeclaredField("accounts");
-        accountsField.setAccessible(true);
-        int[] accounts = (int[]) accountsField.get(ledger);
+        int[] accounts = row(house, "accounts");
         accounts[0]++;
         accounts[1]--;
         Check.same("wrong accounts", house.isConsistent(), false);
         accounts[0]--;
         accounts[1]++;
         Check.same("right accounts", house.isConsistent(), true);
+        accounts[2]--;
+        Check.same("wrong account of the last member", house.isConsistent(), false);
+    }
+
+    /** A debt to a member that does not exist: each account is right, but the positions do not add up to 0. */
+    private static void promise41SeesPositionsThatDoNotAddUp() throws ReflectiveOperationException {
+        DebtClearing house = Houses.with(3, Houses.debt(0, 1, 50));
+        row(house, "amounts")[2 * 8 + 5] = 1;
+        row(house, "accounts")[2] = -1;
+        Check.same("account", house.positionByAccount(2), house.position(2));
+        Check.same("positions add up to -1", house.isConsistent(), false);
+    }
+
+    private static int[] row(DebtClearing house, String name) throws ReflectiveOperationException {
+        Field ledgerField = DebtClearing.class.getDeclaredField("ledger");
+        ledgerField.setAccessible(true);
+        Object ledger = ledgerField.get(house);
+        Field rowField = ledger.getClass().getDeclaredField(name);
+        rowField.setAccessible(true);
+        return (int[]) rowField.get(ledger);
     }
 
     private static void noSuchMember() {
